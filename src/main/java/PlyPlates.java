@@ -960,7 +960,7 @@ public final class PlyPlates {
             return layRules.firstUnkept(tried) == 0;
         }
 
-        /** Held flat, a lay answers by how many layers lie each way, in whatever order: so each such lot is tried once. */
+        /** Held flat, a lay answers by how many layers lie each way, in whatever order: each such lot is tried once. */
         private boolean holdsCases(int stuff, int code, int half) {
             Arrays.fill(perWay, 0);
             for (int i = 0; i < half; i++) {
