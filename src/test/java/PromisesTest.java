@@ -556,6 +556,16 @@ public final class PromisesTest {
         x.strength(0, 2, 10);
         dueFirst(x, 10, 0, 0, 12, 5, 1);
         dueFirst(x, 0, 10, 0, 2, 5, 1);
+        PlyPlates soft = new PlyPlates();
+        soft.stuff(1, 1, 0, 1);
+        soft.plate();
+        soft.lay(0, 0, 0, 1);
+        for (int kind = 0; kind < 5; kind++) {
+            soft.strength(0, kind, 1000);
+        }
+        // The least share that there is above 0.
+        dueFirst(soft, 1, 0, 0, 0, 1000, 1);
+        dueFirst(soft, 0, 0, -1, 4, 1000, 1);
     }
 
     private static void firstTies() {
