@@ -3,7 +3,8 @@ import java.util.List;
 
 /**
  * The document told again in the plainest way, with fractions without a bound, lists that are made anew and a search
- * through every lay: slow, and written without a look at the class, so that the two can be held against one another.
+ * through every lay: slow, and without any code of the class, so that the two can be held against one another. It reads
+ * the document as the class does, so it finds slips of reckoning, not of reading.
  */
 final class Model {
     static final int NONE = -1;
